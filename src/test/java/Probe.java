@@ -1,0 +1,79 @@
+import java.util.NoSuchElementException;
+
+/** One object under test, fed with plain texts, and the tally of wrong answers of a test. */
+final class Probe {
+    private static int checked = 0;
+    private static int wrong = 0;
+
+    final BeardPass pass = new BeardPass();
+
+    static Probe of(String land) {
+        Probe probe = new Probe();
+        same("land " + land, probe.land(land), 0);
+        return probe;
+    }
+
+    static void same(String what, long got, long want) {
+        checked++;
+        if (got != want) {
+            wrong++;
+            System.out.println(what + " answered " + got + ", due is " + want);
+        }
+    }
+
+    static void same(String what, boolean got, boolean want) {
+        same(what, got ? 1 : 0, want ? 1 : 0);
+    }
+
+    static void end(String test) {
+        System.out.println(test + ": " + checked + " checked, " + wrong + " wrong");
+        if (wrong != 0) {
+            System.exit(1);
+        }
+    }
+
+    /** The eight bytes from a place on, the highest first; beyond the end 0, which the tape leaves out. */
+    static long eight(String text, int from) {
+        long bytes = 0;
+        for (int i = from; i < from + 8; i++) {
+            bytes = bytes << 8 | (i < text.length() ? text.charAt(i) & 255 : 0);
+        }
+        return bytes;
+    }
+
+    int feed(String text) {
+        int many = pass.count(11);
+        for (int i = 0; i < text.length(); i += 24) {
+            many = pass.feed(eight(text, i), eight(text, i + 8), eight(text, i + 16));
+        }
+        return many;
+    }
+
+    int land(String text) {
+        feed(text);
+        return pass.land();
+    }
+
+    int journey(String text) {
+        feed(text);
+        return pass.journey();
+    }
+
+    /** A text in which @ stands before the wrong token. */
+    void landFault(int kind, String text) {
+        same("land " + text, land(text.replace("@", "")), kind + 16 * text.indexOf('@'));
+    }
+
+    void journeyFault(int kind, String text) {
+        same("journey " + text, journey(text.replace("@", "")), kind + 16 * text.indexOf('@'));
+    }
+
+    /** The answer of rests, or -9 for NoSuchElementException. */
+    int rests(int reading, int waving, int what) {
+        try {
+            return pass.rests(reading, waving, what);
+        } catch (NoSuchElementException e) {
+            return -9;
+        }
+    }
+}
