@@ -285,7 +285,7 @@ public final class BeardPass {
         if (!isPerson(person) || !isTown(town)) {
             return NONE;
         }
-        ways.findSoonest(now, person);
+        ways.findSoonest(now, person, 1 << town);
         return ways.soonest[town];
     }
 
@@ -380,7 +380,7 @@ public final class BeardPass {
         }
         Arrays.fill(ways.latest, 0);
         for (int person = 0; person < told.persons; person++) {
-            ways.findSoonest(now, person);
+            ways.findSoonest(now, person, told.allTowns());
             ways.waitForSoonest();
         }
         int best = NONE;
@@ -727,6 +727,7 @@ public final class BeardPass {
         private static final int PLUS = -10;
         private static final int MINUS = -11;
         private static final int TIMES = -12;
+        private static final int NO_STEP = -13;
 
         // within each of 5 an E leaves at most 4 values open, so 32 are enough
         private static final int MOST_OPEN = 32;
@@ -817,32 +818,33 @@ public final class BeardPass {
         }
 
         private boolean readPart(Tape tape, int within) {
-            int single = singleHere(tape);
-            if (single == NOT && tape.sort != Sort.NOT && tape.sort != Sort.OPEN) {
+            boolean opens = tape.sort == Sort.OPEN;
+            boolean denies = tape.sort == Sort.NOT;
+            int step = denies ? NOT : valueHere(tape);
+            if (!opens && step == NO_STEP) {
                 return tape.wrong(MISPLACED);
             }
             if (within >= MOST_WITHIN) {
                 return tape.wrong(TOO_MANY);
             }
-            boolean opens = tape.sort == Sort.OPEN;
             tape.step();
             if (opens) {
                 return readWhole(tape, within + 1) && tape.take(Sort.CLOSE);
             }
-            if (single == NOT && !readPart(tape, within + 1)) {
+            if (denies && !readPart(tape, within + 1)) {
                 return false;
             }
-            add(single);
+            add(step);
             return true;
         }
 
-        // the step of a NUMBER or a fact; NOT, which is neither, for all else
-        private static int singleHere(Tape tape) {
+        private static int valueHere(Tape tape) {
             if (tape.sort == Sort.NUMBER) {
                 return tape.number;
             }
+            // a fact is no word that is kept from names
             if (tape.sort != Sort.NAME) {
-                return NOT;
+                return NO_STEP;
             }
             if (tape.spells("long")) {
                 return LONG;
@@ -853,7 +855,7 @@ public final class BeardPass {
             if (tape.spells("asked")) {
                 return ASKED;
             }
-            return tape.spells("weeks") ? WEEKS : NOT;
+            return tape.spells("weeks") ? WEEKS : NO_STEP;
         }
 
         boolean passes(int length, int forged, int asked, int weeks) {
@@ -960,6 +962,10 @@ public final class BeardPass {
                 }
             }
             return NONE;
+        }
+
+        int allTowns() {
+            return (1 << towns) - 1;
         }
 
         int mostAsked() {
@@ -1369,10 +1375,16 @@ public final class BeardPass {
             return NONE;
         }
 
-        // soonest: for each town, in how many weeks the person can be there
-        void findSoonest(Standing standing, int person) {
-            int all = (1 << land.towns) - 1;
+        // no week ever opens a way where no road leads
+        private int linkedTo(int place) {
+            System.arraycopy(land.roads, 0, steps, 0, MOST_TOWNS);
+            return spread(1 << place);
+        }
+
+        // soonest: for each of the wanted towns, in how many weeks the person can be there
+        void findSoonest(Standing standing, int person, int wanted) {
             int bits = 1 << standing.places[person];
+            int possible = wanted & linkedTo(standing.places[person]);
             Arrays.fill(soonest, NONE);
             ahead.copy(standing);
             for (int weeks = 0; weeks <= LAST_WEEK; weeks++) {
@@ -1383,7 +1395,7 @@ public final class BeardPass {
                         soonest[town] = weeks;
                     }
                 }
-                if (bits == all) {
+                if ((possible & ~bits) == 0) {
                     return;
                 }
                 frontier.passWeek(ahead);
@@ -1399,14 +1411,18 @@ public final class BeardPass {
         }
 
         int soonestRound(Standing standing, int person) {
-            int all = (1 << land.towns) - 1;
+            int all = land.allTowns();
+            int been = standing.been[person] & all;
+            if ((been | linkedTo(standing.places[person])) != all) {
+                return NONE;
+            }
             Arrays.fill(standsAfter, 0);
-            standsAfter[standing.been[person] & all] = 1 << standing.places[person];
+            standsAfter[been] = 1 << standing.places[person];
             ahead.copy(standing);
             for (int weeks = 0; weeks <= LAST_WEEK; weeks++) {
                 lay(ahead, person, 0);
-                for (int been = 0; been <= all; been++) {
-                    wander(been);
+                for (int then = been; then <= all; then++) {
+                    wander(then);
                 }
                 if (standsAfter[all] != 0) {
                     return weeks;

@@ -71,9 +71,19 @@ public final class HandTest {
     private static void left() {
         String one = "town a asks 0;person p plain at a beard 2 purse 0;reads ";
         String[] so = {"1 or 1 and 1;", "0 and 0 or 1;", "1-1-1;", "not 0 * 5;", "not(1<1);", "2*3=6;", "7 and 8;",
-            "long;", "(7 and 8)=1;", "(not 7)=0;", "2+3*2=8;", "10-2-3=5;", "long<3 and 1;", "not long < asked + 1;"};
+            "long;", "(7 and 8)=1;", "(not 7)=0;", "2+3*2=8;", "10-2-3=5;", "long<3 and 1;", "not long < asked + 1;", "(1<2)=1;", "(2=2)=1;", "(0 or 3)=1;",
+            "(not 0)=1;", "(1<1)+(1=2)+(0 and 1)+(0 or 0)=0;"};
         String[] not = {"1 or 1 and 0;", "false;", "asked;", "weeks;", "0-0;", "not 7;", "7 and 0;", "1 or 0 and 0;",
             "3<3;", "3=4;", "10-(2-3)=5;"};
+        String deepest = "long";
+        for (int i = 0; i < 5; i++) {
+            deepest = "0 or 0<0+1*" + (i == 0 ? deepest : "(" + deepest + ")");
+        }
+        Probe.same(deepest, Probe.of(one + deepest + ";").pass.town(0, 2), 1);
+        Probe.same(deepest, Probe.of(one + deepest.replace("long", "false") + ";").pass.town(0, 2), 0);
+        String longest = "long" + "+1".repeat(450) + "=";
+        Probe.same("the longest law", Probe.of(one + longest + "452;").pass.town(0, 2), 1);
+        Probe.same("the longest law", Probe.of(one + longest + "451;").pass.town(0, 2), 0);
         for (String law : so) {
             Probe.same(law, Probe.of(one + law).pass.town(0, 2), 1);
         }

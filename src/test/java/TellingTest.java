@@ -101,6 +101,11 @@ public final class TellingTest {
         probe.landFault(1, "road @road");
         probe.landFault(1, FOUR + "person q plain @in");
         probe.landFault(1, FOUR + "person q @a");
+        probe.landFault(1, FOUR + "person q plain@;");
+        probe.landFault(1, FOUR + "person q plain at a@;");
+        probe.landFault(1, "town a@;");
+        probe.landFault(1, "road@;");
+        probe.landFault(1, "grows@;");
         probe.landFault(1, FOUR + "person q plain at a beard 3@;");
         probe.landFault(4, FOUR + "person q plain at a beard @31 purse 100;");
         probe.landFault(4, FOUR + "person q plain at a beard 30 purse @100;");
@@ -134,7 +139,7 @@ public final class TellingTest {
         for (String word : kept) {
             probe.landFault(1, "town @" + word + " asks 1;");
         }
-        for (String word : new String[] {"long", "false", "asked", "weeks", "towns", "roa", "a", "abcdefgh"}) {
+        for (String word : new String[] {"long", "false", "asked", "weeks", "towns", "roa", "a", "abcdefgh", "zaz", "zzzzzzzz"}) {
             Probe.same("name " + word, probe.land("town " + word + " asks 1;"), 0);
         }
     }

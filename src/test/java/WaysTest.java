@@ -47,6 +47,9 @@ public final class WaysTest {
                 Probe.same("guide " + i + " " + town, pass.guide(i, town), first[i][town]);
             }
         }
+        // none was asked about before each of these
+        Probe.same("frontiers of guy", Probe.of(RING).pass.frontiers(3, 0), 2);
+        Probe.same("guide of guy", Probe.of(RING).pass.guide(3, 0), 1);
         BeardPass back = Probe.of("town a asks 0;town b asks 0;town c asks 0;town d asks 0;"
             + "road d c;road d b;road c a;road b a;person p plain at d beard 0 purse 0;").pass;
         Probe.same("of equal ones the first", back.guide(0, 0), 1);
@@ -103,6 +106,25 @@ public final class WaysTest {
         Probe.same("she reaches all", star.reach(0), 7);
         Probe.same("but not all in turn", star.round(0), -1);
         Probe.same("he can", star.round(1), 0);
+        BeardPass late = Probe.of("town a asks 0;town b asks 9;road a b;person p plain at a beard 0 purse 0;"
+            + "reads weeks=99;").pass;
+        Probe.same("by 99", late.round(0), 99);
+        BeardPass later = Probe.of("town a asks 0;town b asks 9;road a b;person p plain at a beard 0 purse 0;"
+            + "reads weeks=100;").pass;
+        Probe.same("not by 99", later.round(0), -1);
+        later.week();
+        Probe.same("by 99", later.round(0), 99);
+        // in week 0 he goes to b and c, in week 1 only b is open, in week 2 only d, behind c
+        BeardPass waits = Probe.of("town a asks 0;town b asks 1;town c asks 0;town d asks 9;road a b;road a c;road c b;"
+            + "road c d;person p plain at a beard 0 purse 0;"
+            + "reads weeks=0 and asked<9 or (weeks=1 and asked=1) or (weeks=2 and asked=9);").pass;
+        Probe.same("he waits at c", waits.round(0), 2);
+        BeardPass line = Probe.of("town a asks 9;town b asks 9;town c asks 9;town d asks 9;town e asks 9;town f asks 9;"
+            + "road a b;road b c;road c d;road d e;road e f;person s smooth at e beard 0 purse 0;"
+            + "person va bishop at a beard 0 purse 0;person vb bishop at b beard 0 purse 0;"
+            + "person vc bishop at c beard 0 purse 0;person vd bishop at d beard 0 purse 0;"
+            + "person ve bishop at e beard 0 purse 0;").pass;
+        Probe.same("the end where nobody speaks comes last", line.round(0), 0);
         BeardPass one = Probe.of("town a asks 30;person p plain at a beard 0 purse 0;").pass;
         Probe.same("one town", one.round(0), 0);
     }
