@@ -1,7 +1,16 @@
 import java.util.NoSuchElementException;
+import java.util.function.ToIntFunction;
+import java.util.regex.Matcher;
+import java.util.regex.Pattern;
 
 /** One object under test, fed with plain texts, and the tally of wrong answers of a test. */
 final class Probe {
+    /** The words that can be no NAME. */
+    static final String[] KEPT = {"town", "asks", "road", "person", "at", "beard", "purse", "grows", "inch", "reads", "go",
+        "forge", "shave", "week", "plain", "smooth", "bishop", "grey", "not", "and", "or"};
+
+    private static final Pattern TOKEN = Pattern.compile("[a-z]+|[0-9]+|\\S");
+
     private static int checked = 0;
     private static int wrong = 0;
 
@@ -66,6 +75,26 @@ final class Probe {
 
     void journeyFault(int kind, String text) {
         same("journey " + text, journey(text.replace("@", "")), kind + 16 * text.indexOf('@'));
+    }
+
+    /** Of a right text: cut behind any of its tokens, its end is wrong unless a line has just ended. */
+    void cutAnywhere(String text, ToIntFunction<String> reader) {
+        Matcher tokens = TOKEN.matcher(text);
+        while (tokens.find()) {
+            String part = text.substring(0, tokens.end());
+            same("cut: " + part, reader.applyAsInt(part), part.endsWith(";") ? 0 : 1 + 16 * part.length());
+        }
+    }
+
+    /** Of a right text: with another in the place of any of its tokens, that one can't stand there. */
+    void wrongAnywhere(String text, String wrong, ToIntFunction<String> reader) {
+        Matcher tokens = TOKEN.matcher(text);
+        while (tokens.find()) {
+            if (!tokens.group().equals(wrong)) {
+                String other = text.substring(0, tokens.start()) + " " + wrong + " " + text.substring(tokens.end());
+                same("wrong: " + other, reader.applyAsInt(other), 1 + 16 * (tokens.start() + 1));
+            }
+        }
     }
 
     /** The answer of rests, or -9 for NoSuchElementException. */
