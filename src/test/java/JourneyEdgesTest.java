@@ -115,11 +115,10 @@ public final class JourneyEdgesTest {
     }
 
     private static void cutOrWrongAnywhere() {
-        Probe probe = Probe.of(LAND);
         String whole = "go pia mid ;forge bob 20;\nshave sal;week;go bob top;";
-        probe.cutAnywhere(whole, probe::journey);
+        Probe.cutAnywhere(whole, text -> Probe.of(LAND).journey(text));
         for (String wrong : new String[] {",", "12345", "abcdefghi", "X", "town", "at", "(", "<", ";"}) {
-            probe.wrongAnywhere(whole, wrong, probe::journey);
+            Probe.wrongAnywhere(whole, wrong, text -> Probe.of(LAND).journey(text));
         }
     }
 

@@ -24,6 +24,7 @@ public final class LandEdgesTest {
         firstTokenLeastKind();
         refused();
         allIsAnew();
+        oneLandBehindAnother();
         Probe.end("LandEdgesTest");
     }
 
@@ -118,8 +119,9 @@ public final class LandEdgesTest {
             Probe.same("to all others", probe.pass.town(i, 1), 63 - (1 << i));
         }
         for (char i = 'a'; i <= 'f'; i++) {
+            Probe again = new Probe();
             for (char j = 'a'; j <= 'f'; j++) {
-                probe.landFault(3, text + "road t" + i + " @t" + j + ";");
+                again.landFault(3, text + "road t" + i + " @t" + j + ";");
             }
         }
     }
@@ -216,8 +218,8 @@ public final class LandEdgesTest {
 
     // "A NAME is another WORD than town, asks, ..."
     private static void keptWords() {
-        Probe probe = new Probe();
         for (String word : Probe.KEPT) {
+            Probe probe = new Probe();
             probe.landFault(1, "town @" + word + " asks 1;");
             probe.landFault(1, TWO + "person @" + word + " plain at a beard 1 purse 1;");
             probe.landFault(1, TWO + "road @" + word + " a;");
@@ -265,14 +267,13 @@ public final class LandEdgesTest {
 
     // "1 it is none, or can't stand there"
     private static void cutOrWrongAnywhere() {
-        Probe probe = new Probe();
-        probe.cutAnywhere(WHOLE, probe::land);
+        Probe.cutAnywhere(WHOLE, text -> new Probe().land(text));
         for (String wrong : new String[] {",", "12345", "abcdefghi", "X", "week", "forge", "at"}) {
-            probe.wrongAnywhere(WHOLE, wrong, probe::land);
+            Probe.wrongAnywhere(WHOLE, wrong, text -> new Probe().land(text));
         }
         String flat = TWO + ONE + "road a b;grows 1;inch 1;";
         for (String wrong : new String[] {";", "(", ")", "<", "=", "+", "-", "*", "and", "or", "not"}) {
-            probe.wrongAnywhere(flat, wrong, probe::land);
+            Probe.wrongAnywhere(flat, wrong, text -> new Probe().land(text));
         }
     }
 
@@ -344,5 +345,23 @@ public final class LandEdgesTest {
         Probe.same("no town", pass.town(0, 0), -1);
         Probe.same("nobody anywhere", pass.count(5), 0);
         Probe.same("no money", pass.count(7), 0);
+    }
+
+    // nothing is left of the lands before, however many there were
+    private static void oneLandBehindAnother() {
+        Probe probe = new Probe();
+        for (int i = 0; i < 450; i++) {
+            Probe.same("a land of nothing", probe.pass.land(), 0);
+        }
+        Probe.same("the last one", probe.land("town a asks 3;person p plain at a beard 3 purse 4;"), 0);
+        Probe.same("3 of 3", probe.pass.town(0, 2), 1);
+        probe.pass.shave(0);
+        Probe.same("0 of 3", probe.pass.town(0, 2), 0);
+        Probe laws = new Probe();
+        for (int i = 0; i < 80; i++) {
+            String land = "town a asks 3;person p plain at a beard 3 purse 4;reads " + (i % 2 == 0 ? "long=asked" : "0") + ";";
+            Probe.same("a law", laws.land(land), 0);
+            Probe.same("as told last", laws.pass.town(0, 2), 1 - i % 2);
+        }
     }
 }
