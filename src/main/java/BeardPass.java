@@ -757,7 +757,7 @@ public final class BeardPass {
         }
 
         // the steps come behind those that are there: an E lies within an E
-        boolean readWhole(Tape tape, int within) {
+        private boolean readWhole(Tape tape, int within) {
             if (!readTest(tape, within)) {
                 return false;
             }
