@@ -52,7 +52,7 @@ final class Probe {
     }
 
     /** What an object answers behind its 512th call is free: a test must not lean on it. */
-    private void called() {
+    void called() {
         calls++;
         if (calls == 513) {
             same("calls on one object", calls, 512);
