@@ -1016,7 +1016,7 @@ public final class BeardPass {
                 return readRoad(tape, land);
             }
             if (tape.sort == Sort.PERSON) {
-                return readPerson(tape, land);
+                return readPerson(tape, land) && readGoods(tape, land, land.persons - 1);
             }
             if (tape.sort == Sort.GROWS) {
                 return readGrows(tape, land);
@@ -1024,7 +1024,10 @@ public final class BeardPass {
             if (tape.sort == Sort.INCH) {
                 return readInch(tape, land);
             }
-            return tape.sort == Sort.READS ? readReads(tape, land) : tape.wrong(MISPLACED);
+            if (tape.sort == Sort.READS) {
+                return beginReads(tape, land) && land.law.readWhole(tape, 0);
+            }
+            return tape.wrong(MISPLACED);
         }
 
         private boolean readTown(Tape tape, Land land) {
@@ -1091,7 +1094,7 @@ public final class BeardPass {
             }
             tape.step();
             land.persons++;
-            return readGoods(tape, land, person);
+            return true;
         }
 
         private boolean readGoods(Tape tape, Land land, int person) {
@@ -1149,14 +1152,14 @@ public final class BeardPass {
             return land.inch != NONE;
         }
 
-        private boolean readReads(Tape tape, Land land) {
+        private boolean beginReads(Tape tape, Land land) {
             if (readsTold) {
                 return tape.wrong(TOLD_TWICE);
             }
             readsTold = true;
             tape.step();
             land.law.size = 0;
-            return land.law.readWhole(tape, 0);
+            return true;
         }
     }
 

@@ -1,6 +1,10 @@
 import java.util.ArrayList;
+import java.util.HashSet;
 import java.util.List;
+import java.util.Map;
 import java.util.Random;
+import java.util.Set;
+import java.util.TreeMap;
 
 /** Random runs of calls, the same on BeardPass and on the Model: all promises, with wrong inputs among them. */
 public final class ModelTest {
@@ -11,6 +15,12 @@ public final class ModelTest {
         "reads", "go", "forge", "shave", "week", "plain", "smooth", "bishop", "grey", "not", "and", "or", "(", ")", "<",
         "=", "+", "-", "*", ";", "long", "false", "asked", "weeks", "ta", "tb", "pa", "pb", "0", "7", "31", "100", "9999",
         "12345", "toolongaword", "A", "&", "\n", "x", "tg"};
+
+    private static final int CALLS = 33;
+
+    /** Of each call, how often it was made and which answers were due. */
+    private static final Map<String, Integer> MADE = new TreeMap<>();
+    private static final Map<String, Set<Integer>> ANSWERS = new TreeMap<>();
 
     private final Random random;
     private final Probe probe = new Probe();
@@ -26,7 +36,17 @@ public final class ModelTest {
         for (int seed = 0; seed < runs; seed++) {
             new ModelTest(seed).play(seed);
         }
+        eachCallWasMade(runs);
         Probe.end("ModelTest");
+    }
+
+    /** Runs that never come to a call, or to one answer of it alone, show nothing about its promise. */
+    private static void eachCallWasMade(int runs) {
+        Probe.same("calls of the face in the runs", MADE.size(), CALLS);
+        for (String name : MADE.keySet()) {
+            Probe.same(name + " was made " + MADE.get(name) + " times", MADE.get(name) >= runs / 3, true);
+            Probe.same(name + " had more than one answer", ANSWERS.get(name).size() > 1, true);
+        }
     }
 
     private int below(int n) {
@@ -49,6 +69,10 @@ public final class ModelTest {
     }
 
     private void same(String call, int got, int due) {
+        int open = call.indexOf('(');
+        String name = open < 0 ? call : call.substring(0, open);
+        MADE.merge(name, 1, Integer::sum);
+        ANSWERS.computeIfAbsent(name, unseen -> new HashSet<>()).add(due);
         run.append(call).append(' ');
         if (got != due) {
             Probe.same(run.toString(), got, due);

@@ -154,6 +154,16 @@ public final class RunsTest {
             land reads ((((long))))<not not not not weeks;@reads 1;                 -> fault3
             land reads not(not(not@(not(not long))));                               -> fault5
             land town a asks 3@                                                     -> fault1
+            land town @abcdefghi asks 3;                                            -> fault1
+            land town a asks @00003;                                                -> fault1
+            land town a asks 1;person @a plain at a beard 1 purse 1;                -> fault3
+            land town a asks 1;person p plain at a beard @31 purse 0;               -> fault4
+            land town a asks 1;person p plain at a beard 30 purse @100;             -> fault4
+            land town a asks 1;person p plain at @p beard 30 purse 1;               -> fault2
+            land grows 5;@grows 5;                                                  -> fault3
+            land grows @6;                                                          -> fault4
+            land inch @0;                                                           -> fault4
+            land inch @10;                                                          -> fault4
             count(0..11)                -> 4 4 3 4 2 7 2 41 2 1 4 0
             person(0, 0..5)             -> 0 1 13 2 16 3
             lengths(0)                  -> 25
@@ -162,6 +172,7 @@ public final class RunsTest {
             person(0, 1)                -> 0
             mark(1, true)               -> yes
             person(0, 1)                -> 1
+            week()                      -> 3
             without one all is new
             land town one asks 9;reads 1;person two grey at one beard 30 purse 99;  -> 0
             count(0..11)                -> 1 1 1 2 0 1 0 99 0 0 0 0
@@ -171,9 +182,18 @@ public final class RunsTest {
             mark(1, true)               -> no
             judged(0..2)                -> none none 0
             journey go ada gate;        -> 50
+            land town abcdefgh asks 0030;inch 9;grows 0;                            -> 0
+            count(0..3)                 -> 1 0 0 9
+            town(0, 0)                  -> 30
             land                        -> 0
             count(0..3)                 -> 0 0 1 2
             """);
+        String people = "";
+        for (int i = 0; i < 6; i++) {
+            people += "person p" + "abcdef".charAt(i) + " plain at a beard 0 purse 0;";
+        }
+        Script.run("3: land, six persons", "land town a asks 0;" + people + " -> 0\ncount(1) -> 6\n"
+            + "land town b asks 0;town a asks 0;" + people + "@person q; -> fault5\ncount(0..1) -> 1 6\n");
     }
 
     private static void journey() {
@@ -547,6 +567,8 @@ public final class RunsTest {
             judged(0..2)                -> 0 11 24
             journey go abe cap;go abe fair;go abe cap;forge abe 1;forge abe 1; -> 0
             judged(0..2)                -> 4 0 4
+            journey forge ada 1;shave ada;go ada gate;week;week;go ada gate; -> 0
+            judged(0..2)                -> 2 none 4
             journey                     -> 0
             judged(0..2)                -> none none 0
             land town a asks 3;town b asks 3;road a b;person p grey at a beard 0 purse 9; -> 0
@@ -637,6 +659,9 @@ public final class RunsTest {
     private static void frontiers() {
         valley("14: frontiers", """
             frontiers(0..3, 0..3)       -> 0 none none none  0 none none none  1 1 0 1  1 0 1 none
+            forge(0, 1)                 -> 20
+            frontiers(0..1, 0..3)       -> 0 1 none none  0 1 2 3
+            undo()                      -> yes
             week()                      -> 1 2 3
             frontiers(0..3, 0..3)       -> 0 1 1 none  0 1 1 2  1 1 0 1  1 0 1 2
             without abe nobody speaks at the fair
@@ -688,6 +713,10 @@ public final class RunsTest {
             mark(0, true)               -> yes
             week()                      -> 13
             when(0, 0..2)               -> 0 none none
+            land town a asks 0;town b asks 20;town c asks 21;road a b;road a c;person p plain at a beard 0 purse 0;reads weeks=asked+79; -> 0
+            when(0, 0..2)               -> 0 99 none
+            week()                      -> 1
+            when(0, 0..2)               -> 0 98 99
             """);
     }
 
@@ -721,6 +750,10 @@ public final class RunsTest {
             round(4)                    -> none
             land town a asks 0;town b asks 0;person p bishop at b beard 0 purse 0; -> 0
             round(0)                    -> none
+            land town a asks 20;town b asks 21;road a b;person p plain at a beard 0 purse 0;reads weeks=asked+79; -> 0
+            round(0)                    -> none
+            week()                      -> 1
+            round(0)                    -> 99
             """);
     }
 
@@ -887,6 +920,10 @@ public final class RunsTest {
             need(3, 0..3)               -> 0 0 0 0
             undo()                      -> yes
             need(0, 0..3)               -> 0 3 9 none
+            no more than 20 in all
+            forge(0, 3)                 -> 0
+            need(0, 0..3)               -> 0 0 6 none
+            undo()                      -> yes
             need(0, -1)                 -> none
             need(0, 4)                  -> none
             need(-1, 0)                 -> none
@@ -1080,6 +1117,14 @@ public final class RunsTest {
             lengths(-1..3)              -> none 0 none none none
             see(0, true)                -> yes
             lengths(0..2)               -> 0 none none
+            of a plain one, none of whose inches are forged
+            land town a asks 1;town b asks 30;reads not(long<asked)and false=0; -> 0
+            mark(0, false)              -> yes
+            see(0, false)               -> yes
+            lengths(0..2)               -> 1 0 0
+            mark(0, true)               -> yes
+            see(1, true)                -> yes
+            lengths(0..2)               -> 1 30 30
             """);
         Script.run("28: lengths, by weeks", """
             land town a asks 10;town b asks 20;reads not(long+weeks<asked); -> 0
